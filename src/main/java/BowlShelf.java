@@ -1236,18 +1236,12 @@ public final class BowlShelf {
         }
 
         boolean isName() {
-            return kind == WORD && !opensStatement() && !namesAmount()
-                && !isWord("not") && !isWord("and") && !isWord("or");
-        }
-
-        private boolean opensStatement() {
-            return isWord("bowl") || isWord("lid") || isWord("shelf")
+            boolean opensStatement = isWord("bowl") || isWord("lid") || isWord("shelf")
                 || isWord("top") || isWord("habit") || isWord("nest");
-        }
-
-        private boolean namesAmount() {
-            return isWord("wide") || isWord("deep") || isWord("weight") || isWord("bears")
+            boolean namesAmount = isWord("wide") || isWord("deep") || isWord("weight") || isWord("bears")
                 || isWord("breaks") || isWord("height") || isWord("reach") || isWord("room");
+            boolean joins = isWord("not") || isWord("and") || isWord("or");
+            return kind == WORD && !opensStatement && !namesAmount && !joins;
         }
     }
 
