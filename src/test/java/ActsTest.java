@@ -141,6 +141,11 @@ public final class ActsTest {
         Check.due("the first stays", x.where(0, 1), 0);
         Check.due("room again", x.put(1, 0, NEW), 0);
         Check.due("the last one", x.where(1, 1), 2);
+        x.draw(0);
+        x.put(0, 0, NEW);
+        Check.due("the last one", x.where(0, 1), 2);
+        x.draw(1);
+        Check.due("the first WARE comes ahead, too", x.where(0, 1), 1);
     }
 
     private static void carry() {
@@ -167,6 +172,11 @@ public final class ActsTest {
         Check.due("back", x.carry(1, 0, 0), 0);
         Check.due("as the last one", x.where(0, 1), 1);
         Check.due("gone there", x.shelf(1, 3), 0);
+        BowlShelf y = Check.told(Check.bowl("a", 9, 5, 1, 9, 0) + Check.shelf("s", 9, 0, 1) + Check.shelf("t", 5, 0, 1)
+            + Check.shelf("u", 4, 0, 1));
+        y.put(0, 0, NEW);
+        Check.due("a rim above the height", y.carry(0, 0, 2), 6);
+        Check.due("a rim at the height", y.carry(0, 0, 1), 0);
     }
 
     private static void where() {

@@ -112,6 +112,11 @@ public final class AskTest {
         z.put(1, 0, 0);
         askAll(z, 0);
         Check.due("b does not bear a", z.best(0, 0, 0), 5);
+        BowlShelf v = Check.told(Check.bowl("a", 9, 5, 3, 99, 0) + Check.bowl("b", 9, 5, 1, 3, 0) + "nest 1 ; " + Check.shelf("s", 10, 0, 1));
+        v.put(0, 0, NEW);
+        v.put(1, 0, 0);
+        askAll(v, 0);
+        Check.due("b just bears a, at the very height", v.best(0, 0, 0), 3);
     }
 
     private static void bestOfEqualOnes() {
@@ -226,6 +231,14 @@ public final class AskTest {
         x.put(1, 0, 0);
         Check.due("594 and 198, half each", x.habit(0), 396);
         Check.due("below", x.habit(1), 1);
+        BowlShelf y = Check.told(easy("a", 4, 1) + "habit a 1 ; " + Check.shelf("s", 9, 1, 1));
+        y.put(0, 0, NEW);
+        Check.due("one habit of 1", y.habit(0), 5);
+        Check.due("one habit of 1", y.habit(1), 1);
+        BowlShelf z = Check.told(easy("a", 4, 1) + easy("b", 5, 1) + "habit a 1 ; habit b 2 ; " + Check.shelf("s", 9, 1, 1));
+        z.put(0, 0, NEW);
+        Check.due("nothing in common", z.habit(0), 5);
+        Check.due("nothing in common", z.habit(1), 3);
     }
 
     private static void whole() {

@@ -100,8 +100,10 @@ public final class OrderTest {
             Check.due("rowOf " + w, x.rowOf(w), rows[w]);
         }
         // c may stand on a and on b, d on a alone: the first one that c fits is not its own
-        BowlShelf y = Check.told(plain("a", 9, 9, 1) + plain("b", 20, 5, 1) + plain("c", 3, 3, 1) + plain("d", 2, 7, 1)
-            + "nest inner < outer and low < deep ;");
+        BowlShelf y = Check.told(plain("a", 9, 9, 1) + plain("b", 9, 9, 1) + plain("c", 9, 9, 1) + plain("d", 9, 9, 1));
+        Check.due("a row for each", y.rowOf(3), 3);
+        Check.due("told anew", Check.tell(y, plain("a", 9, 9, 1) + plain("b", 20, 5, 1) + plain("c", 3, 3, 1)
+            + plain("d", 2, 7, 1) + "nest inner < outer and low < deep ;"), 0);
         Check.due("rows", y.rows(0), 2);
         Check.due("set", y.rows(1), 3);
         int[] others = {0, 1, 1, 0};
@@ -151,6 +153,9 @@ public final class OrderTest {
         BowlShelf v = Check.told(plain("a", 5, 3, 1) + plain("b", 9, 8, 1) + "nest 1 ;");
         Check.due("a in b", v.needed(8), 1);
         Check.due("b", v.needed(7), -1);
+        BowlShelf first = Check.told(plain("a", 5, 8, 1) + plain("b", 9, 3, 1));
+        Check.due("the first one is too high", first.needed(7), -1);
+        Check.due("the first one is not", first.needed(8), 2);
     }
 
     private static void neededOfTwelve() {
@@ -185,6 +190,8 @@ public final class OrderTest {
         Check.due("no such ware", x.sorted(-1, 20, 0), -1);
         Check.due("no ware", x.sorted(0, 20, 0), -1);
         Check.due("one", x.sorted(4, 5, 0), 2);
+        Check.due("the first one", x.sorted(1, 5, 0), 0);
+        Check.due("no second", x.sorted(1, 5, 1), -1);
         Check.due("too high", x.sorted(4, 4, 0), -1);
         Check.due("two", x.sorted(6, 6, 1), 2);
         Check.due("too high", x.sorted(6, 5, 0), -1);
@@ -234,6 +241,9 @@ public final class OrderTest {
         Check.due("nowhere", x.goes(2, 2), -1);
         Check.due("nothing has changed", x.count(3), 1);
         Check.due("no shelf", Check.told(plain("a", 9, 3, 1)).goes(0, 0), -1);
+        BowlShelf y = Check.told(plain("a", 9, 3, 1) + plain("b", 9, 3, 1) + Check.shelf("s", 10, 1, 1));
+        Check.due("a is lost", y.goes(1, 2), 1);
+        Check.due("b is lost", y.goes(0, 2), 1);
     }
 
     private static void goesByCost() {

@@ -83,6 +83,8 @@ public final class ReadTest {
         Check.fine("nest 9999 ;");
         Check.fault("bowlkk wide 5", 1, 0);
         Check.fault("bowls kk", 1, 0);
+        Check.fault("cowl kk", 1, 0);
+        Check.fault("bold kk", 1, 0);
         Check.fault("ttttopkk", 1, 0);
         Check.fault("# bowl", 1, 0);
         Check.fault("top", 1, 3);
@@ -371,6 +373,18 @@ public final class ReadTest {
         holds("( 2 < 2 ) = 0", 1);
         holds("( 5 and 7 ) = 1", 1);
         holds("( 0 or 7 ) = 1", 1);
+        holds("0 or 0", 0);
+        holds("1 or 0", 1);
+        holds("5 or 0", 1);
+        holds("1 or 1", 1);
+        holds("( 3 = 3 ) = 1", 1);
+        holds("( 3 = 4 ) = 0", 1);
+        holds("1 ; nest 0", 0);
+        holds("0 ; nest 1", 0);
+        holds("1 ; nest 1", 1);
+        holds("1 ; nest 0 ; nest 1", 0);
+        holds("1 ; nest 1 ; nest 1 ; nest 3 - 3", 0);
+        holds("1 ; nest 1 - 2 ; nest 2 * 1 ; nest not 0", 1);
         holds("0 and 1 or 1", 1);
         holds("1 or 1 and 0", 0);
         holds("1 or 0 and 0", 0);
