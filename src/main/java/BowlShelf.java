@@ -11,6 +11,7 @@ public final class BowlShelf {
     private static final int MOST_ASKINGS = 30;
     private static final int MOST_SIGNS = 1000;
     private static final int MOST_MARKS = 4;
+    private static final int MOST_HEIGHT = 999;
 
     private static final int NO_SUCH = 1;
     private static final int OUT_OR_NOT = 2;
@@ -249,8 +250,12 @@ public final class BowlShelf {
         return order.row[ware];
     }
 
+    private static boolean isHeight(int height) {
+        return height >= 1 && height <= MOST_HEIGHT;
+    }
+
     public int needed(int height) {
-        if (height < 1 || height > 999) {
+        if (!isHeight(height)) {
             return NONE;
         }
         for (int ware = 0; ware < told.wares; ware++) {
@@ -263,7 +268,7 @@ public final class BowlShelf {
     }
 
     public int sorted(int set, int height, int i) {
-        if (set < 1 || set >= 1 << told.wares || i < 0 || i >= Integer.bitCount(set)) {
+        if (!isHeight(height) || set < 1 || set >= 1 << told.wares || i < 0 || i >= Integer.bitCount(set)) {
             return NONE;
         }
         heights.settle(told);
@@ -1366,7 +1371,7 @@ public final class BowlShelf {
                 return wrong(TOO_MANY);
             }
             boolean right = readNewName(shelfName, shelf)
-                && readAmount("height", 1, 999, told.height, shelf)
+                && readAmount("height", 1, MOST_HEIGHT, told.height, shelf)
                 && readAmount("reach", 0, 99, told.reach, shelf)
                 && readAmount("room", 1, 8, told.room, shelf)
                 && readSign(';');

@@ -250,7 +250,7 @@ public final class ModelTest {
 
     private void sorted() {
         int set = upTo(1 << plain.wares.size()) - (once(20) ? 2 : 0);
-        int height = once(3) ? 999 : aHeight();
+        int height = once(3) ? 998 + random.nextInt(3) : aHeight();
         for (int i = -1; i <= Integer.bitCount(set); i++) {
             due("sorted " + set + "," + height + "," + i, x.sorted(set, height, i), plain.sorted(set, height, i));
         }

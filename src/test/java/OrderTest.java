@@ -199,8 +199,11 @@ public final class OrderTest {
         Check.due("height -1", x.sorted(8, -1, 0), -1);
         Check.due("height 1", x.sorted(8, 1, 0), 3);
         Check.due("least height", x.sorted(8, Integer.MIN_VALUE, 0), -1);
-        // no range is told for this height: what STANDS at 999 STANDS at more
-        Check.due("height 1000", x.sorted(15, 1000, 0), 1);
+        Check.due("height 999", x.sorted(15, 999, 0), 1);
+        // what STANDS at 999 would STAND at more, but a height is 1 to 999, as of needed
+        Check.due("height 1000", x.sorted(15, 1000, 0), -1);
+        Check.due("height 1000, one ware", x.sorted(1, 1000, 0), -1);
+        Check.due("greatest height", x.sorted(15, Integer.MAX_VALUE, 0), -1);
     }
 
     private static void sortedByHeight() {

@@ -723,7 +723,7 @@ final class PlainShelf {
     }
 
     int sorted(int set, int height, int i) {
-        if (set < 0 || set >= 1 << wares.size() || i < 0) {
+        if (set < 0 || set >= 1 << wares.size() || i < 0 || height < 1 || height > 999) {
             return -1;
         }
         List<Integer> order = firstOrder(set, height);
