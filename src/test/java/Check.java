@@ -6,6 +6,8 @@ final class Check {
 
     private static int wrong = 0;
     private static int asked = 0;
+    private static String sentence = "";
+    private static int askedBefore = 0;
 
     private Check() {
     }
@@ -14,12 +16,37 @@ final class Check {
         asked++;
         if (got != want) {
             wrong++;
-            System.out.println(call + " answered " + got + ", due is " + want);
+            System.out.println(sentence + call + " answered " + got + ", due is " + want);
         }
+    }
+
+    /** The sentence of the document, in its own words, that the answers behind are due by; each needs some. */
+    static void says(String words) {
+        if (!sentence.isEmpty() && asked == askedBefore) {
+            wrong++;
+            System.out.println(sentence + "nothing is asked for it");
+        }
+        sentence = "[" + words + "] ";
+        askedBefore = asked;
     }
 
     static void due(String call, boolean got, boolean want) {
         due(call, got ? 1 : 0, want ? 1 : 0);
+    }
+
+    /** The same answer is due for each of some arguments. */
+    static void all(String call, int[] got, int want) {
+        for (int i = 0; i < got.length; i++) {
+            due(call + " (" + i + ")", got[i], want);
+        }
+    }
+
+    /** A row of answers. */
+    static void row(String call, int[] got, int... want) {
+        due(call + ": how many", got.length, want.length);
+        for (int i = 0; i < got.length && i < want.length; i++) {
+            due(call + " (" + i + ")", got[i], want[i]);
+        }
     }
 
     /** Puts a text on the TAPE, 24 signs a call; answers what the last call answered. */
