@@ -17,6 +17,7 @@ public final class EdgeAskTest {
         refusedOrNot();
         putBack();
         asItStands();
+        askedNone();
         bestOfSeven();
         bestOnItsShelf();
         bestOfThem();
@@ -25,6 +26,7 @@ public final class EdgeAskTest {
         onTopIfItStands();
         onTopNothingChanges();
         onTopEdges();
+        onTopFull();
         habitOfAll();
         habitOut();
         habitLowest();
@@ -152,6 +154,18 @@ public final class EdgeAskTest {
         x.clear();
         ask(x, 1, 0, 11, 5);
         Check.due("three", x.asked(), 23 + 1 + 13);
+    }
+
+    private static void askedNone() {
+        Check.says("What all ASKINGS cost AS IT STANDS.");
+        Check.due("no cupboard", new BowlShelf().asked(), 0);
+        BowlShelf x = oneStack(2, Check.shelf("s", 9, 0, 1));
+        Check.due("none", x.asked(), 0);
+        Check.row("no such ware is none", new int[] {x.ask(2), x.asked()}, -1, 0);
+        ask(x, 1, 0);
+        Check.row("one", new int[] {x.asked(), x.draw(0), x.asked(), x.put(0, 0, 0), x.asked()}, 3, 0, 0, 0, 1);
+        ask(x, 29, 1);
+        Check.row("thirty, no more", new int[] {x.asked(), x.ask(1), x.asked()}, 1 + 29 * 3, -1, 1 + 29 * 3);
     }
 
     private static void bestOfSeven() {
@@ -295,6 +309,25 @@ public final class EdgeAskTest {
         Check.due("one alone is on top", alone.onTop(), 30);
     }
 
+    private static void onTopFull() {
+        Check.says("What all ASKINGS cost ON TOP.");
+        Check.due("no cupboard", new BowlShelf().onTop(), 0);
+        BowlShelf x = oneStack(12, Check.shelf("s", 12, 99, 1));
+        Check.due("none", x.onTop(), 0);
+        ask(x, 2, 0, 1, 2, 3, 4, 5, 6, 7, 8, 9, 10, 11);
+        // each is the lowest when it is asked
+        Check.row("twelve, twice", new int[] {x.onTop(), x.onTop()}, 24 * (100 + 22 * 100), 24 * (100 + 22 * 100));
+        ask(x, 1, 11, 11, 11, 10, 10, 10);
+        Check.row("thirty", new int[] {x.ask(0), x.onTop()}, -1, 24 * 2300 + 3 * 100 + 300 + 2 * 100);
+        BowlShelf y = Check.told(bowls(4) + Check.shelf("s", 12, 1, 1) + Check.shelf("t", 12, 0, 1));
+        for (int w = 0; w < 4; w++) {
+            y.put(w, w % 2, w < 2 ? NEW : 0);
+        }
+        ask(y, 2, 0, 1, 2, 3);
+        // 0 and 2 on one shelf, 1 and 3 on the other: each is the lower one when it is asked
+        Check.due("of two stacks", y.onTop(), 4 * 6 + 4 * 3);
+    }
+
     private static void habitOfAll() {
         Check.says("the mean cost of an asking: each WARE is asked by its habit of all habits");
         BowlShelf x = oneStack(2, "habit a 3;" + "habit b 2;" + Check.shelf("s", 9, 1, 1));
@@ -345,6 +378,8 @@ public final class EdgeAskTest {
         BowlShelf y = Check.told(bowls(2) + "habit a 1; habit b 99;" + Check.shelf("s", 9, 0, 3));
         y.put(0, 0, NEW);
         Check.row("1 of 100", new int[] {y.habit(0), y.habit(1)}, 1, 100);
+        BowlShelf z = oneStack(1, "habit a 1;" + Check.shelf("s", 9, 5, 3));
+        Check.row("the least habit there is", new int[] {z.habit(0), z.habit(1)}, 6, 1);
     }
 
     private static void habitOthers() {

@@ -34,6 +34,8 @@ public final class EdgeCupboardTest {
         wrongNumber();
         tooMany();
         aNewCupboard();
+        fromThenOn();
+        nestsFromThenOn();
         allStays();
         ofAWare();
         ofAShelf();
@@ -197,6 +199,7 @@ public final class EdgeCupboardTest {
         Check.fault(three + "habit a 100 ;", 4, three.length() + 8);
         Check.fault(three + "habit a 1 ; habit a 1 ;", 3, three.length() + 18);
         Check.fault(three + "habit a 0 ; habit a 1 ;", 3, three.length() + 18);
+        Check.fault(three + "habit a 0 ; habit b 1 ; habit a 1 ;", 3, three.length() + 30);
         Check.fault(three + "habit a ;", 1, three.length() + 8);
         Check.due("told anew, without", Check.tell(x, three), 0);
         Check.due("0 without", x.ware(2, 5), 0);
@@ -224,6 +227,8 @@ public final class EdgeCupboardTest {
                 Check.fine(KK.replace("kk", word + "s"));
             }
             Check.fine(KK.replace("kk", word.substring(1)));
+            Check.fine(KK.replace("kk", "z" + word.substring(1)));
+            Check.fine(KK.replace("kk", word.substring(0, word.length() - 1) + "z"));
         }
         for (String fact : new String[] {"inner", "outer", "low", "light", "heavy", "under"}) {
             Check.fine(KK.replace("kk", fact) + "top " + fact + " ; nest " + fact + " ;");
@@ -246,6 +251,12 @@ public final class EdgeCupboardTest {
         Check.fault(wares(11) + "lid a", 3, wares(11).length() + 4);
         Check.fault(wares(11) + "lid k", 3, wares(11).length() + 4);
         Check.fault(shelvesOf(3) + "shelf sc", 3, shelvesOf(3).length() + 6);
+        // short ones of the first letters, which a careless sum would take for one another
+        StringBuilder few = new StringBuilder();
+        for (String name : new String[] {"a", "aa", "aaa", "aaaaaaaa", "b", "ba", "ab", "bb", "z", "zz"}) {
+            few.append("lid ").append(name).append(" wide 5 weight 5 breaks 5;");
+        }
+        Check.fine(few.toString());
         // eight letters that differ in the last or in the first alone
         Check.fine(KK.replace("kk", "aaaaaaaa") + KK.replace("kk", "aaaaaaab") + KK.replace("kk", "baaaaaaa"));
         // what an earlier CUPBOARD told is told no more
@@ -526,6 +537,54 @@ public final class EdgeCupboardTest {
         Check.due("an empty one", x.cupboard(), 0);
         Check.due("takes it, too", x.mark(0, true), false);
         Check.row("nothing", new int[] {x.count(0), x.count(1), x.count(3)}, 0, 0, 0);
+    }
+
+    /** Each CUPBOARD is told three times over, as what is kept of one may be used again two later. */
+    private static void fromThenOn() {
+        Check.says("Without a FAULT it is the CUPBOARD from then on");
+        String rich = Check.lid("a", 9, 9, 9) + Check.bowl("b", 8, 8, 8, 800, 80) + "top a; top b; habit a 7; habit b 8; nest 0;"
+            + Check.shelf("s", 99, 9, 8);
+        String plain = Check.bowl("p", 5, 4, 3, 200, 10) + Check.lid("q", 4, 2, 1) + Check.bowl("r", 3, 2, 1, 0, 5) + Check.shelf("t", 10, 1, 1);
+        BowlShelf x = new BowlShelf();
+        for (int n = 0; n < 3; n++) {
+            Check.due("rich", Check.tell(x, rich), 0);
+            isRich(x);
+            Check.due("plain", Check.tell(x, plain), 0);
+            isPlain(x);
+            Check.due("a FAULT between", Check.tell(x, rich + "lid c wide 1 weight 1 breaks 1; top c; habit c 9; ?") != 0, true);
+            isPlain(x);
+            Check.due("plain again", Check.tell(x, plain), 0);
+            isPlain(x);
+        }
+    }
+
+    private static void isRich(BowlShelf x) {
+        Check.row("counts", new int[] {x.count(0), x.count(1), x.count(2)}, 2, 1, 1);
+        Check.row("a", new int[] {x.ware(0, 1), x.ware(0, 3), x.ware(0, 5), x.ware(0, 6), x.ware(0, 7)}, 1, 0, 7, 1, 1);
+        Check.row("b", new int[] {x.ware(1, 1), x.ware(1, 3), x.ware(1, 5), x.ware(1, 6), x.ware(1, 7)}, 8, 800, 8, 0, 1);
+        Check.row("law", new int[] {x.may(1, 0), x.through(1, 0), x.rows(0), x.rows(1), x.rowOf(1), x.needed(8), x.sorted(3, 99, 0)},
+            0, 0, 2, 3, 1, 2, -1);
+    }
+
+    private static void isPlain(BowlShelf x) {
+        Check.row("counts", new int[] {x.count(0), x.count(1), x.count(2)}, 3, 1, 0);
+        Check.row("p", new int[] {x.ware(0, 1), x.ware(0, 3), x.ware(0, 5), x.ware(0, 6), x.ware(0, 7)}, 4, 200, 0, 0, 0);
+        Check.row("q", new int[] {x.ware(1, 1), x.ware(1, 3), x.ware(1, 5), x.ware(1, 6), x.ware(1, 7)}, 1, 0, 0, 1, 0);
+        Check.row("law", new int[] {x.may(1, 0), x.through(2, 0), x.rows(0), x.rows(1), x.rowOf(2), x.needed(4), x.sorted(3, 4, 1)},
+            1, 1, 1, 1, 0, 2, 1);
+    }
+
+    private static void nestsFromThenOn() {
+        Check.says("it is the CUPBOARD from then on");
+        String two = Check.bowl("a", 9, 1, 1, 1, 1) + Check.bowl("b", 8, 1, 1, 1, 1);
+        BowlShelf x = new BowlShelf();
+        String[] laws = {"nest 0;", "nest 1;", "nest 1; nest 0;", "nest not 0;", "nest 5;", "nest 1 and not 1;", "nest 1 or 0;", ""};
+        int[] on = {0, 1, 0, 1, 1, 0, 1, 0};
+        for (int i = 0; i < laws.length; i++) {
+            Check.due("told", Check.tell(x, two + laws[i]), 0);
+            Check.row("0 on 1, 1 on 0 by " + laws[i], new int[] {x.may(0, 1), x.may(1, 0)}, on[i], i == 7 ? 1 : on[i]);
+            Check.due("a FAULT in a nest", Check.tell(x, "nest not 1; nest 0 and ?") != 0, true);
+        }
     }
 
     private static void allStays() {

@@ -20,6 +20,7 @@ public final class EdgeOrderTest {
         neededAlone();
         neededFewest();
         neededInSomeOrder();
+        neededLaterOnesWorse();
         sortedFirstOrder();
         sortedOthers();
         sortedDoNotStand();
@@ -148,6 +149,12 @@ public final class EdgeOrderTest {
         // here d (2, 4) is within b, too: c takes row 0
         BowlShelf y = Check.told(easy("a", 9, 9) + easy("b", 20, 5) + easy("c", 3, 3) + easy("d", 2, 4) + "nest inner < outer and low < deep;");
         Check.row("no later one needs it", rowsOf(y), 0, 1, 0, 1);
+        // as the first, with e (10, 4) between b and c, then told once more in another way
+        BowlShelf z = Check.told(easy("a", 9, 9) + easy("b", 20, 5) + easy("c", 3, 3) + easy("d", 2, 7) + easy("e", 10, 4)
+            + "nest inner < outer and low < deep;");
+        Check.row("one behind them", rowsOf(z), 0, 1, 1, 0, 1);
+        Check.due("told anew", Check.tell(z, lids(1, 1, 2, 2, 3)), 0);
+        Check.row("rows anew", rowsOf(z), 0, 1, 0, 1, 0);
     }
 
     private static void rowOfOthers() {
@@ -216,6 +223,15 @@ public final class EdgeOrderTest {
         Check.due("a with c or d, b with none", v.needed(999), 3);
     }
 
+    private static void neededLaterOnesWorse() {
+        Check.says("the fewest into which all WARES can be parted");
+        // a bears b alone; c, b, d are a chain of which b is the middle: a with b leaves two, a alone leaves one
+        BowlShelf x = Check.told(Check.bowl("a", 9, 1, 1, 1, 0) + Check.bowl("b", 6, 1, 1, 9, 0) + Check.bowl("c", 9, 1, 1, 9, 0)
+            + Check.bowl("d", 3, 1, 1, 9, 0) + "nest inner + 3 = outer;");
+        Check.row("a alone", new int[] {x.needed(3), x.needed(999)}, 2, 2);
+        Check.row("b below", new int[] {x.sorted(1 + 2, 9, 0), x.sorted(1 + 2, 9, 1), x.sorted(2 + 4 + 8, 9, 0), x.sorted(4 + 8, 9, 0)}, 0, 1, 2, -1);
+    }
+
     private static void sortedFirstOrder() {
         Check.says("SORTED: of a set of WARES the first order (by numbers, from below) in which they STAND.");
         BowlShelf x = Check.told("nest 1;" + easy("a", 9, 5) + easy("b", 9, 5) + easy("c", 9, 5));
@@ -229,6 +245,14 @@ public final class EdgeOrderTest {
         Check.row("at 10", order(y, 3, 10), 1, 0);
         Check.row("at 8", order(y, 3, 8), 1, 0);
         Check.row("at 7", order(y, 3, 7), -1, -1);
+        // 0 and 1 are 1 high each; then 2, 3 are 3 + 6 high in 1, but 3, 2 are 6
+        BowlShelf u = Check.told("nest 1;" + easy("a", 20, 1) + easy("b", 20, 1) + easy("c", 5, 3) + easy("d", 7, 6));
+        Check.row("at 11", order(u, 15, 11), 0, 1, 2, 3);
+        Check.row("at 10", order(u, 15, 10), 0, 1, 3, 2);
+        Check.row("at 8", order(u, 15, 8), 0, 1, 3, 2);
+        Check.row("at 7: 3 in 0, 2 in 3, 1 on the rim of 2", order(u, 15, 7), 0, 3, 2, 1);
+        Check.row("at 6: 3 below", order(u, 15, 6), 3, 2, 0, 1);
+        Check.row("at 5", order(u, 15, 5), -1, -1, -1, -1);
         // 0 below is the first order as long as it bears it
         BowlShelf z = Check.told("nest 1;" + Check.bowl("a", 5, 3, 2, 3, 0) + Check.bowl("b", 5, 3, 3, 2, 0) + Check.shelf("s", 1, 0, 1));
         Check.row("it bears 3", order(z, 3, 6), 0, 1);
@@ -318,6 +342,15 @@ public final class EdgeOrderTest {
         Check.row("the first shelf", new int[] {y.goes(0, 0), y.goes(0, 1)}, 1, 0);
         y.put(0, 1, NEW);
         Check.row("behind a stack on which it can't stand, though a later shelf is empty", new int[] {y.goes(1, 0), y.goes(1, 1)}, 1, 1);
+        // the most that a PUT can cost, where one is lost and where none is
+        BowlShelf v = Check.told(Check.bowl("a", 9, 3, 99, 0, 0) + Check.bowl("b", 9, 9, 99, 0, 0) + Check.shelf("s", 9, 98, 1)
+            + Check.shelf("t", 3, 99, 1) + Check.shelf("u", 2, 0, 1));
+        Check.row("198 and none lost", new int[] {v.goes(0, 0), v.goes(0, 2), v.goes(1, 0), v.goes(1, 2)}, 1, 0, 0, 0);
+        v.put(0, 1, NEW);
+        Check.row("197", new int[] {v.goes(1, 0), v.goes(1, 2)}, 0, 0);
+        BowlShelf w = Check.told(Check.bowl("a", 9, 3, 99, 0, 0) + Check.bowl("b", 9, 9, 99, 0, 0) + Check.shelf("s", 3, 99, 1)
+            + Check.shelf("t", 3, 98, 1));
+        Check.row("198 and 197, one lost in both", new int[] {w.goes(0, 0), w.goes(0, 2)}, 1, 1);
         BowlShelf z = Check.told(easy("a", 5, 1) + easy("b", 9, 1) + easy("c", 9, 1) + easy("d", 6, 1) + Check.shelf("s", 9, 0, 8));
         z.put(0, 0, NEW);
         z.put(1, 0, NEW);

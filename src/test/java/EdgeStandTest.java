@@ -11,6 +11,7 @@ public final class EdgeStandTest {
         may();
         mayByNests();
         mayOthers();
+        onTheOneBelow();
         bears();
         rims();
         foot();
@@ -29,6 +30,7 @@ public final class EdgeStandTest {
         carryOthers();
         carryRoomAndHeight();
         carryAsTheLast();
+        carryRefusedChanges();
         costOfPut();
         costOfDraw();
         costOfCarry();
@@ -113,6 +115,15 @@ public final class EdgeStandTest {
         for (int w = 0; w < 12; w++) {
             Check.due("the same", x.may(w, w), -1);
         }
+    }
+
+    private static void onTheOneBelow() {
+        Check.says("It STANDS at a height if each MAY stand on the one below");
+        // 1 MAY stand on 0, 2 on 1, but 2 not on 0 and 0 on none
+        BowlShelf x = Check.told(easy("a", 9, 5, 1) + easy("b", 6, 5, 1) + easy("c", 3, 5, 1) + "nest inner + 3 = outer;" + Check.shelf("s", 99, 0, 3));
+        Check.due("the first one is on the shelf", x.put(0, 0, NEW), 0);
+        Check.row("the one below alone is asked for", new int[] {x.put(2, 0, 0), x.put(1, 0, 0), x.put(2, 0, 0)}, 4, 0, 0);
+        Check.row("sets", new int[] {x.sorted(7, 99, 2), x.sorted(5, 99, 0), x.sorted(6, 99, 1)}, 2, -1, 2);
     }
 
     private static void bears() {
@@ -379,6 +390,18 @@ public final class EdgeStandTest {
         Check.row("the first of eight goes", new int[] {x.carry(1, 0, 0), x.where(0, 0), x.where(0, 1), x.where(7, 1)}, 0, 0, 0, 6);
     }
 
+    private static void carryRefusedChanges() {
+        Check.says("CARRIED: 0, or why it is REFUSED.");
+        BowlShelf x = oneStack(3, Check.shelf("s", 9, 5, 8) + Check.shelf("t", 5, 5, 1) + Check.shelf("u", 9, 5, 1));
+        Check.row("one off", new int[] {x.draw(0), x.put(0, 2, NEW), x.put(0, 2, 0)}, 0, 0, 2);
+        int before = x.cost();
+        Check.row("refused", new int[] {x.carry(0, 1, 1), x.carry(0, 0, 2), x.carry(0, 0, 3), x.carry(0, 0, 0)}, 1, 3, 1, 1);
+        Check.row("all as it was", new int[] {x.cost() - before, x.shelf(0, 3), x.shelf(1, 3), x.shelf(2, 3), x.where(2, 2)}, 0, 1, 0, 1, 1);
+        Check.row("carried: 2 * 5 and 2 * 10", new int[] {x.carry(0, 0, 1), x.cost() - before, x.shelf(0, 3)}, 0, 30, 0);
+        Check.row("6", new int[] {x.draw(0), x.put(0, 1, 0), x.carry(1, 0, 2)}, 0, 6, 0);
+        Check.row("it is higher than t then", new int[] {x.put(0, 2, 0), x.carry(2, 0, 1), x.where(0, 0), x.carry(2, 0, 0)}, 0, 6, 2, 0);
+    }
+
     private static void costOfPut() {
         Check.says("each WARE that is lifted costs its weight and the shelf's reach: PUT once");
         BowlShelf x = Check.told(easy("a", 9, 5, 99) + easy("b", 8, 5, 1) + Check.shelf("s", 99, 99, 8) + Check.shelf("t", 99, 0, 8));
@@ -534,6 +557,18 @@ public final class EdgeStandTest {
         x.clear();
         x.mark(0, true);
         Check.row("thirty askings", new int[] {x.count(4), x.ask(0)}, 30, -1);
+        // what comes ahead when a STACK is gone goes behind again
+        BowlShelf y = Check.told(bowls(3) + Check.shelf("s", 9, 1, 8) + Check.shelf("t", 9, 2, 8));
+        y.put(0, 0, NEW);
+        y.put(1, 0, NEW);
+        y.put(2, 0, 1);
+        y.mark(2, false);
+        Check.row("one ahead", new int[] {y.draw(0), y.where(1, 1), y.where(2, 1), y.shelf(0, 3)}, 0, 0, 0, 1);
+        Check.due("back", y.mark(2, true), true);
+        Check.row("one behind", new int[] {y.where(0, 1), y.where(1, 1), y.where(2, 1), y.shelf(0, 3), y.where(2, 2)}, 0, 1, 1, 2, 1);
+        Check.row("another shelf", new int[] {y.carry(0, 1, 1), y.where(2, 0), y.where(2, 1)}, 0, 1, 0);
+        Check.due("back", y.mark(2, true), true);
+        Check.row("as it was", new int[] {y.where(2, 0), y.where(2, 1), y.where(2, 2), y.shelf(1, 3)}, 0, 1, 1, 0);
         Check.feed(x, "abc");
         x.mark(0, true);
         Check.due("the TAPE is none of it", x.count(5), 3);

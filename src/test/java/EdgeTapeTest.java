@@ -194,6 +194,10 @@ public final class EdgeTapeTest {
         Check.fine("\n\nbowl\nkk \n wide\n5\ndeep\n5\nweight\n5\nbears\n5\nbreaks\n5\n;\n");
         Check.fine("nest ( ( 1 ) ) ;");
         Check.fault("bo wl kk", 1, 0);
+        Check.fault("owl kk", 1, 0);
+        Check.fault("cowl kk", 1, 0);
+        Check.fault("hid kk", 1, 0);
+        Check.fault("best 1;", 1, 0);
         Check.fault("bowl\nwide", 1, 5);
         Check.fault("  \n top", 1, 7);
         Check.fault("nest 1 \n 2 ;", 1, 9);
