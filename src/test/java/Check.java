@@ -20,7 +20,7 @@ final class Check {
         }
     }
 
-    /** The sentence of the document, in its own words, that the answers behind are due by; each needs some. */
+    /** The sentence of the document (or LANGUAGE.md), in its words, that the answers behind are due by; each needs some. */
     static void says(String words) {
         if (!sentence.isEmpty() && asked == askedBefore) {
             wrong++;
